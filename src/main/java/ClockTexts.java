@@ -242,7 +242,7 @@ public final class ClockTexts {
         }
 
         void appendPair(int value) {
-            append(NOUGHT + value / 10 % 10);
+            append(NOUGHT + value / 10);
             append(NOUGHT + value % 10);
         }
 
@@ -266,7 +266,7 @@ public final class ClockTexts {
         int faultOf(ByteRow text, int kind, Moment into) {
             at = 0;
             minutesAhead = 0;
-            into.clear();
+            into.clearOptional();
             if (!readDate(text, kind, into) || !readClock(text, kind, into)) {
                 return TIME_FAULT;
             }
@@ -419,11 +419,8 @@ public final class ClockTexts {
             part = new byte[TEXT_MOST];
         }
 
-        void clear() {
-            year = 0;
-            month = 0;
-            day = 0;
-            hour = 0;
+        /** Forgets what a text may leave out; all else is told by every right one. */
+        void clearOptional() {
             minute = 0;
             second = 0;
             partLength = 0;

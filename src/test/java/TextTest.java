@@ -8,6 +8,7 @@ public final class TextTest {
         feedBytes();
         end();
         endTwice();
+        endedBytesAreGone();
         count();
         CHECKS.finish();
     }
@@ -87,6 +88,22 @@ public final class TextTest {
         CHECKS.due("3: end(0), across feeds", x.end(0), 11);
         CHECKS.due("3: read", x.read(0), 13);
         CHECKS.dueText("3: the first of the sixteen stay", Checks.written(x), "700102030400Z");
+    }
+
+    private static void endedBytesAreGone() {
+        ClockTexts x = new ClockTexts();
+        Checks.feedSixteen(x, Checks.bytes("1970010203040506"));
+        x.end(10);
+        CHECKS.dueThrow("3: read of ten", IllegalArgumentException.class, () -> x.read(1));
+        CHECKS.due("3: digits behind the end are gone", x.fault(), 2);
+        Checks.feedSixteen(x, Checks.bytes("1970010203+01300"));
+        x.end(13);
+        CHECKS.due("3: digits of the zone behind the end are gone", x.read(1), 15);
+        CHECKS.due("3: hour", x.unit(3), 2);
+        CHECKS.due("3: minute", x.unit(4), 0);
+        Checks.feedSixteen(x, Checks.bytes("7001020304Z....."));
+        x.end(10);
+        CHECKS.dueThrow("3: read without Z", IllegalArgumentException.class, () -> x.read(0));
     }
 
     private static void count() {

@@ -13,6 +13,7 @@ public final class TimeTest {
         withoutTime();
         seconds();
         units();
+        unitsOfTheNextText();
         everyDay();
         CHECKS.finish();
     }
@@ -114,6 +115,16 @@ public final class TimeTest {
         CHECKS.due("9: the week of year 0", Checks.reading(1, "0000010100Z").unit(7), 5);
         CHECKS.due("9: digits of no part", Checks.reading(1, "20240229133456.000Z").unit(6), 0);
         CHECKS.due("9: digits of an hour's part", Checks.reading(1, "2024022913.00001Z").unit(6), 3);
+    }
+
+    private static void unitsOfTheNextText() {
+        ClockTexts x = Checks.reading(1, "20240229133456.789Z");
+        Checks.put(x, "2023010100Z");
+        x.read(1);
+        int[] due = {2023, 1, 1, 0, 0, 0, 0, 6};
+        for (int what = 0; what < due.length; what++) {
+            CHECKS.due("9: unit(" + what + ") of the next text", x.unit(what), due[what]);
+        }
     }
 
     /** The last day of each month of every year, and the day behind it. */
