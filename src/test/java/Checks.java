@@ -1,5 +1,9 @@
 import java.nio.charset.StandardCharsets;
+import java.util.ArrayList;
 import java.util.Arrays;
+import java.util.List;
+import java.util.function.Supplier;
+import java.util.function.ToLongFunction;
 
 /** What the tests share: answers that are due, exceptions that are due, texts as feeds. */
 final class Checks {
@@ -9,6 +13,22 @@ final class Checks {
 
     private int wrong = 0;
     private int asked = 0;
+    private String sentence = "";
+
+    /** A test of its own for one sentence of the document; what it finds is told with the sentence. */
+    void sentence(String words, Runnable test) {
+        sentence = words;
+        int before = asked;
+        try {
+            test.run();
+        } catch (RuntimeException thrown) {
+            tell("the test was cut off by " + thrown);
+        }
+        if (asked == before) {
+            tell("the test asks nothing");
+        }
+        sentence = "";
+    }
 
     void due(String what, long got, long want) {
         asked++;
@@ -38,7 +58,7 @@ final class Checks {
 
     void tell(String fault) {
         wrong++;
-        System.out.println(fault);
+        System.out.println(sentence.isEmpty() ? fault : "[" + sentence + "] " + fault);
     }
 
     void finish() {
@@ -74,10 +94,46 @@ final class Checks {
 
     static String written(ClockTexts x) {
         StringBuilder all = new StringBuilder();
-        for (int i = 0; i < x.count(1); i++) {
+        int length = x.count(1);
+        for (int i = 0; i < length; i++) {
             all.append((char) x.out(i));
         }
         return all.toString();
+    }
+
+    static String answerOf(Call call) {
+        try {
+            return Long.toString(call.answer());
+        } catch (RuntimeException thrown) {
+            return thrown.getClass().getSimpleName();
+        }
+    }
+
+    /** All that an object answers; its text is read at last, so the object is used up then. */
+    static String allOf(ClockTexts x) {
+        List<String> all = new ArrayList<>();
+        int kept = x.count(2);
+        all.add("counts " + x.count(0) + " " + x.count(1) + " " + kept);
+        all.add("fault " + x.fault());
+        all.add("written " + written(x));
+        for (int what = 0; what <= 7; what++) {
+            int asked = what;
+            all.add("unit " + answerOf(() -> x.unit(asked)));
+        }
+        all.add("seconds " + answerOf(x::seconds));
+        for (int k = 0; k < kept; k++) {
+            all.add("order " + x.order(k) + " at " + x.between(0, k));
+        }
+        all.add("text read " + answerOf(() -> x.read(1)) + ", fault " + x.fault());
+        return all.toString();
+    }
+
+    /** A call on an object that is made for it is refused, and leaves all as it was. */
+    void dueRefused(String what, Supplier<ClockTexts> made, Class<? extends RuntimeException> want,
+            ToLongFunction<ClockTexts> call) {
+        ClockTexts x = made.get();
+        dueThrow(what, want, () -> call.applyAsLong(x));
+        dueText(what + " leaves all as it was", allOf(x), allOf(made.get()));
     }
 
     /** A new object that has read a text. */
@@ -86,6 +142,24 @@ final class Checks {
         put(x, text);
         x.read(kind);
         return x;
+    }
+
+    /** Puts a text behind what is there and reads it; it must be right. */
+    static void readInto(ClockTexts x, int kind, String text) {
+        put(x, text);
+        x.read(kind);
+    }
+
+    /** A new object whose latest reading had a fault. */
+    static ClockTexts faulty() {
+        ClockTexts x = reading(1, "20010203040506.78Z");
+        put(x, "2001020304");
+        try {
+            x.read(1);
+        } catch (IllegalArgumentException due) {
+            return x;
+        }
+        throw new IllegalStateException("a text without a zone was read");
     }
 
     /** Reads a text that must be right, and looks at what is written. */

@@ -12,11 +12,6 @@ public final class KeepTest {
         CHECKS.finish();
     }
 
-    private static void readInto(ClockTexts x, int kind, String text) {
-        Checks.put(x, text);
-        x.read(kind);
-    }
-
     private static void dueOrder(String name, ClockTexts x, int... due) {
         for (int k = 0; k < due.length; k++) {
             CHECKS.due(name + ": order(" + k + ")", x.order(k), due[k]);
@@ -31,7 +26,7 @@ public final class KeepTest {
         ClockTexts x = new ClockTexts();
         int[] due = new int[40];
         for (int number = 0; number < 40; number++) {
-            readInto(x, 1, String.format("2000010100%02dZ", 40 - number));
+            Checks.readInto(x, 1, String.format("2000010100%02dZ", 40 - number));
             CHECKS.due("10: keep " + number, x.keep(), number);
             CHECKS.due("13: kept", x.count(2), number + 1);
             due[39 - number] = number;
@@ -49,7 +44,7 @@ public final class KeepTest {
     private static void keepWithoutTime() {
         ClockTexts x = new ClockTexts();
         CHECKS.dueThrow("10: keep, new", IllegalStateException.class, x::keep);
-        readInto(x, 0, "7001010000Z");
+        Checks.readInto(x, 0, "7001010000Z");
         CHECKS.due("10: keep", x.keep(), 0);
         CHECKS.due("10: keep the same", x.keep(), 1);
         Checks.put(x, "7001010000");
@@ -61,17 +56,17 @@ public final class KeepTest {
     private static void order() {
         ClockTexts x = new ClockTexts();
         dueOrder("11: none", x);
-        readInto(x, 0, "0001010000Z");
+        Checks.readInto(x, 0, "0001010000Z");
         x.keep();
         dueOrder("11: one", x, 0);
-        readInto(x, 1, "0000010100Z");
+        Checks.readInto(x, 1, "0000010100Z");
         x.keep();
-        readInto(x, 1, "99991231235959.9Z");
+        Checks.readInto(x, 1, "99991231235959.9Z");
         x.keep();
-        readInto(x, 0, "5001010000Z");
+        Checks.readInto(x, 0, "5001010000Z");
         x.keep();
         dueOrder("11: both kinds", x, 1, 3, 0, 2);
-        readInto(x, 1, "2000010101+02");
+        Checks.readInto(x, 1, "2000010101+02");
         x.keep();
         dueOrder("11: at Z", x, 1, 3, 4, 0, 2);
     }
@@ -80,19 +75,19 @@ public final class KeepTest {
         ClockTexts x = new ClockTexts();
         String[] parts = {"5", "45", "05", "50001", "4999999", "0", "10", "9", "049", "0500000001"};
         for (String part : parts) {
-            readInto(x, 1, "20000101000000." + part + "Z");
+            Checks.readInto(x, 1, "20000101000000." + part + "Z");
             x.keep();
         }
         dueOrder("11: parts", x, 5, 8, 2, 9, 6, 1, 4, 0, 3, 7);
-        readInto(x, 1, "20000101000000Z");
+        Checks.readInto(x, 1, "20000101000000Z");
         x.keep();
-        readInto(x, 1, "19991231235959.999999Z");
+        Checks.readInto(x, 1, "19991231235959.999999Z");
         x.keep();
         dueOrder("11: parts and seconds", x, 11, 5, 10, 8, 2, 9, 6, 1, 4, 0, 3, 7);
         ClockTexts y = new ClockTexts();
         String nines = Checks.repeat("9", 223);
         for (int last = 3; last >= 0; last--) {
-            readInto(y, 1, "20000101000000." + nines + last + "Z");
+            Checks.readInto(y, 1, "20000101000000." + nines + last + "Z");
             y.keep();
         }
         dueOrder("11: the last digit", y, 3, 2, 1, 0);
@@ -100,30 +95,30 @@ public final class KeepTest {
 
     private static void orderOfEquals() {
         ClockTexts x = new ClockTexts();
-        readInto(x, 1, "20000101000030.5Z");
+        Checks.readInto(x, 1, "20000101000030.5Z");
         x.keep();
-        readInto(x, 0, "0001010000Z");
+        Checks.readInto(x, 0, "0001010000Z");
         x.keep();
-        readInto(x, 1, "2000010100Z");
+        Checks.readInto(x, 1, "2000010100Z");
         x.keep();
-        readInto(x, 1, "200001010000.50833333333333Z");
+        Checks.readInto(x, 1, "200001010000.50833333333333Z");
         x.keep();
-        readInto(x, 1, "200001010100,5+01");
+        Checks.readInto(x, 1, "200001010100,5+01");
         x.keep();
-        readInto(x, 0, "9912312300-0100");
+        Checks.readInto(x, 0, "9912312300-0100");
         x.keep();
-        readInto(x, 1, "20000101000030.50000Z");
+        Checks.readInto(x, 1, "20000101000030.50000Z");
         x.keep();
         dueOrder("11: the same time", x, 1, 2, 5, 4, 3, 0, 6);
     }
 
     private static void between() {
         ClockTexts x = new ClockTexts();
-        readInto(x, 1, "0000010100Z");
+        Checks.readInto(x, 1, "0000010100Z");
         x.keep();
-        readInto(x, 1, "99991231235959.9Z");
+        Checks.readInto(x, 1, "99991231235959.9Z");
         x.keep();
-        readInto(x, 1, "00000101000000.9Z");
+        Checks.readInto(x, 1, "00000101000000.9Z");
         x.keep();
         CHECKS.due("12: to the later", x.between(0, 1), 315569519999L);
         CHECKS.due("12: to the earlier", x.between(1, 0), -315569519999L);

@@ -12,11 +12,18 @@ import java.util.regex.Pattern;
 
 /** Long runs of mixed calls, each answer beside that of a model that uses the Java library. */
 public final class ModelTest {
-    private static final int RUNS = 500;
+    private static final int RUNS = 6000;
     private static final int CALLS = 512;
+    // The full look at the end asks for four numbers, 242 bytes and forty kept ones at most.
+    private static final int CALLS_OF_LOOK = 4 + 242 + 40;
+    private static final int CALLS_OF_STEP = 26;
 
     private final Checks checks = new Checks();
     private long seed = 20261115L;
+    private int run;
+    private int calls;
+    private ClockTexts x;
+    private Model model;
 
     public static void main(String[] args) {
         ModelTest test = new ModelTest();
@@ -31,89 +38,92 @@ public final class ModelTest {
         return (int) ((seed >>> 33) % bound);
     }
 
-    private void run(int run) {
-        ClockTexts x = new ClockTexts();
-        Model model = new Model();
-        int calls = 0;
-        while (calls < CALLS - 20) {
-            int choice = below(20);
+    private void run(int number) {
+        run = number;
+        calls = 0;
+        x = new ClockTexts();
+        model = new Model();
+        // Some runs keep until there are forty, others a few times alone.
+        int keepers = below(4) == 0 ? 40 : below(8);
+        while (calls + CALLS_OF_STEP + CALLS_OF_LOOK <= CALLS) {
+            int choice = below(20 + keepers);
             if (choice < 9) {
-                calls += putText(run, x, model);
+                putText();
             } else {
-                singleCall(run, choice, x, model);
-                calls++;
+                singleCall(choice);
             }
+            if (below(3) == 0) {
+                compareCounts();
+            }
+        }
+        compareAll();
+        if (calls > CALLS) {
+            checks.tell(run + ": the run has " + calls + " calls, more than an object is used for");
         }
     }
 
-    private int putText(int run, ClockTexts x, Model model) {
+    private void putText() {
         byte[] all = Checks.bytes(someText());
-        int calls = 0;
-        for (int from = 0; from < all.length && calls < 17; from += 16) {
+        for (int from = 0; from < all.length; from += 16) {
             byte[] sixteen = Arrays.copyOfRange(all, from, from + 16);
-            compare(run, "feed " + new String(sixteen), () -> Checks.feedSixteen(x, sixteen), () -> model.feed(sixteen));
-            calls++;
+            compare("feed " + new String(sixteen), () -> Checks.feedSixteen(x, sixteen), () -> model.feed(sixteen));
         }
         int last = all.length % 16;
         if (last > 0) {
-            compare(run, "end " + last, () -> x.end(last), () -> model.end(last));
-            calls++;
+            compare("end " + last, () -> x.end(last), () -> model.end(last));
         }
         int kind = below(50) == 0 ? below(5) - 2 : below(2);
-        compare(run, "read " + kind, () -> x.read(kind), () -> model.read(kind));
-        compareState(run, x, model);
-        return calls + 1;
+        compare("read " + kind, () -> x.read(kind), () -> model.read(kind));
     }
 
-    private void singleCall(int run, int choice, ClockTexts x, Model model) {
+    private void singleCall(int choice) {
         int a = below(45) - 2;
         int b = below(45) - 2;
         if (choice == 9) {
-            compare(run, "end " + a, () -> x.end(a), () -> model.end(a));
+            compare("end " + a, () -> x.end(a), () -> model.end(a));
         } else if (choice == 10) {
-            compare(run, "again", x::again, model::again);
+            compare("again", x::again, model::again);
         } else if (choice == 11) {
-            compare(run, "seconds", x::seconds, model::wholeSeconds);
+            compare("seconds", x::seconds, model::wholeSeconds);
         } else if (choice == 12) {
-            compare(run, "unit " + a % 10, () -> x.unit(a % 10), () -> model.unit(a % 10));
-        } else if (choice <= 15) {
-            compare(run, "keep", x::keep, model::keep);
+            compare("unit " + a % 10, () -> x.unit(a % 10), () -> model.unit(a % 10));
+        } else if (choice == 13) {
+            compare("order " + a, () -> x.order(a), () -> model.order(a));
+        } else if (choice == 14) {
+            compare("between " + a + " " + b, () -> x.between(a, b), () -> model.between(a, b));
+        } else if (choice == 15) {
+            compare("out " + a, () -> x.out(a), () -> model.out(a));
         } else if (choice == 16) {
-            compare(run, "order " + a, () -> x.order(a), () -> model.order(a));
-        } else if (choice == 17) {
-            compare(run, "between " + a + " " + b, () -> x.between(a, b), () -> model.between(a, b));
-        } else if (choice == 18) {
-            compare(run, "out " + a, () -> x.out(a), () -> model.out(a));
+            compare("read 1", () -> x.read(1), () -> model.read(1));
         } else {
-            compare(run, "read 1", () -> x.read(1), () -> model.read(1));
+            compare("keep", x::keep, model::keep);
         }
-        compareState(run, x, model);
     }
 
-    private void compareState(int run, ClockTexts x, Model model) {
-        checks.due(run + ": fault", x.fault(), model.fault);
-        checks.due(run + ": count(0)", x.count(0), model.text.length());
-        checks.due(run + ": count(1)", x.count(1), model.written.length());
-        checks.due(run + ": count(2)", x.count(2), model.kept.size());
-        checks.dueText(run + ": written", Checks.written(x), model.written);
+    private void compareCounts() {
+        compare("fault", x::fault, () -> model.fault);
+        compare("count(0)", () -> x.count(0), () -> model.text.length());
+        compare("count(1)", () -> x.count(1), () -> model.written.length());
+        compare("count(2)", () -> x.count(2), () -> model.kept.size());
+    }
+
+    private void compareAll() {
+        compare("fault", x::fault, () -> model.fault);
+        for (int i = 0; i < model.written.length(); i++) {
+            int at = i;
+            compare("out " + i, () -> x.out(at), () -> model.out(at));
+        }
         List<Integer> due = model.inOrder();
         for (int k = 0; k < due.size(); k++) {
-            checks.due(run + ": order(" + k + ")", x.order(k), due.get(k));
+            int at = k;
+            compare("order " + k, () -> x.order(at), () -> due.get(at));
         }
+        compare("seconds", x::seconds, model::wholeSeconds);
     }
 
-    private void compare(int run, String name, Checks.Call got, Checks.Call want) {
-        String gotAnswer = answerOf(got);
-        String wantAnswer = answerOf(want);
-        checks.dueText(run + ": " + name, gotAnswer, wantAnswer);
-    }
-
-    private static String answerOf(Checks.Call call) {
-        try {
-            return Long.toString(call.answer());
-        } catch (RuntimeException thrown) {
-            return thrown.getClass().getName();
-        }
+    private void compare(String name, Checks.Call got, Checks.Call want) {
+        calls++;
+        checks.dueText(run + ": " + name, Checks.answerOf(got), Checks.answerOf(want));
     }
 
     private String someText() {
